@@ -261,8 +261,8 @@ final class CastingTest {
         Check.yes("what comes to the sand later does not help", hasFault(weak, weak.pour(), 4));
     }
 
-    /** Five moulds bring the draught to 85, coal to 10 and the water to 0. */
-    private static Ironpour worn(int coal, int water) {
+    /** Five moulds bring the draught to 85, coal to 10 and the water to 0; whether the sixth one is blown. */
+    private static boolean isBlown(int coal, int water) {
         Ironpour x = new Ironpour();
         x.draw('g', 5, 0, 1, 1);
         x.draw('c', 5, 1, 1, 1);
@@ -271,29 +271,23 @@ final class CastingTest {
         }
         Check.same("draught of worn sand", x.sand('d'), 85);
         x.mill(0, 20, coal, 0);
-        x.mill(0, water - 20, 0, 0);
+        x.mill(0, 19, 0, 0);
+        x.mill(0, water - 39, 0, 0);
+        Check.same("water", x.sand('w'), water);
         x.mould();
+        x.mill(0, 0, 0, 50);
         Yard.tapPig(x, 200);
         for (int i = 0; i < 5; i++) {
-            Check.no("not blown ahead of that", hasFault(x, x.pour(), 8));
+            Check.no("blown ahead of that", hasFault(x, x.pour(), 8));
         }
-        return x;
+        return hasFault(x, x.pour(), 8);
     }
 
     private static void promise40Blown() {
-        Ironpour x = worn(12, 40);
-        Check.no("draught 79, water 40", hasFault(x, x.pour(), 8));
-        Ironpour wet = worn(10, 40);
-        Check.no("draught 80, water 40", hasFault(wet, wet.pour(), 8));
-        Ironpour both = worn(12, 39);
-        both.mill(0, 10, 0, 0);
-        both.mould();
-        both.pour();
-        Check.yes("worn further and wetter", hasFault(both, both.pour(), 8) == (both.sand('w') + 8 > 40));
-        Ironpour x41 = blownWith(12, 20, 1);
-        Check.yes("draught 79, water 41", hasFault(x41, x41.pour(), 8));
-        Ironpour y41 = blownWith(10, 20, 1);
-        Check.no("draught 80, water 41", hasFault(y41, y41.pour(), 8));
+        Check.yes("draught 79, water 41", isBlown(12, 41));
+        Check.no("draught 80, water 41", isBlown(10, 41));
+        Check.no("draught 79, water 40", isBlown(12, 40));
+        Check.no("draught 80, water 40", isBlown(10, 40));
         Ironpour waiting = Yard.sound();
         waiting.mould();
         waiting.minutes(1);
@@ -302,26 +296,6 @@ final class CastingTest {
         Yard.tapPig(waiting, 200);
         Check.yes("61 minutes", hasFault(waiting, waiting.pour(), 8));
         Check.no("60 minutes", hasFault(waiting, waiting.pour(), 8));
-    }
-
-    private static Ironpour blownWith(int coal, int water, int more) {
-        Ironpour x = new Ironpour();
-        x.draw('g', 5, 0, 1, 1);
-        x.draw('c', 5, 1, 1, 1);
-        for (int i = 0; i < 5; i++) {
-            x.mould();
-        }
-        x.mill(0, water, coal, 0);
-        x.mill(0, water, 0, 0);
-        x.mill(0, more, 0, 0);
-        Check.same("water", x.sand('w'), 41);
-        x.mould();
-        x.mill(0, 0, 0, 50);
-        Yard.tapPig(x, 200);
-        for (int i = 0; i < 5; i++) {
-            x.pour();
-        }
-        return x;
     }
 
     private static void promise40Core() {
