@@ -66,6 +66,10 @@ final class CastingTest {
             Check.same("mould", x.mould(), i);
         }
         Check.refused(x, "10 wait", STATE, x::mould);
+        Ironpour corner = new Ironpour();
+        corner.draw('g', 5, 0, 1, 1);
+        corner.draw('c', 0, 0, 1, 1);
+        Check.same("the only cell in the corner", corner.mould(), 1);
         x.draw('o', 0, 0, 1, 1);
         Check.refused(x, "10 wait, no cores", UNSUPPORTED, x::mould);
         x.makeCores(2, 1);
@@ -135,11 +139,14 @@ final class CastingTest {
         Check.same("nothing left", x.ladle('w'), 0);
         Check.same("no heat", x.ladle('h'), 0);
         x.mould();
+        Yard.tapPig(x, 1);
+        Check.same("a single kilogram", x.has(x.pour(), 'c'), 420);
+        x.mould();
         Yard.tapPig(x, 33);
-        Check.same("short", x.pour(), 3);
-        Check.yes("short", hasFault(x, 3, 2));
+        Check.same("short", x.pour(), 4);
+        Check.yes("short", hasFault(x, 4, 2));
         Check.same("all of it is poured", x.ladle('w'), 0);
-        Check.same("33 kilograms were it", x.breakUp(3), 4 + 33);
+        Check.same("33 kilograms were it", x.breakUp(4), 4 + 33);
         Check.yes("isSound", x.isSound());
     }
 
@@ -199,6 +206,14 @@ final class CastingTest {
         for (int fault : new int[] {0, 1, 2, 3}) {
             Yard.cast(x, fault);
         }
+        x.draw('.', 0, 0, 12, 9);
+        x.draw('g', 5, 0, 3, 1);
+        x.draw('c', 5, 1, 1, 1);
+        x.part(1);
+        Yard.mouldInFreshSand(x);
+        Yard.tapPig(x, 8);
+        Check.same("a single cell is shrunk", x.faults(x.pour()), 1);
+        x.part(4);
         Yard.drawSound(x);
         x.draw('r', 0, 5, 1, 1);
         Yard.mouldInFreshSand(x);

@@ -18,6 +18,8 @@ final class FreezingTest {
         promise16LastPlace();
         promise17BestFeeder();
         comparedWithNaive();
+        inTheFirstCorner();
+        upTo400Steps();
         drawingChangesWhatWasKnown();
         Check.end("FreezingTest");
     }
@@ -254,6 +256,58 @@ final class FreezingTest {
         } else {
             Check.refused(x, "lastPlace", NONE, () -> x.lastPlace(heat));
         }
+    }
+
+    /** The first cell by rows and columns is 0, which must not be taken for none. */
+    private static void inTheFirstCorner() {
+        Ironpour x = new Ironpour();
+        x.draw('g', 1, 0, 1, 1);
+        x.draw('c', 0, 0, 1, 1);
+        Check.same("lastPlace", x.lastPlace(1400), 0);
+        Check.same("shrunk", x.shrunk(1400), 1);
+        Check.same("shrunkAnew", x.shrunkAnew(1400), 1);
+        x.draw('o', 1, 1, 1, 1);
+        x.draw('o', 0, 2, 1, 1);
+        Check.same("a place beside the first cell alone", x.bestFeeder(1400), 12);
+        x.draw('r', 0, 1, 1, 1);
+        Check.yes("isFed", x.isFed(0, 0, 1400));
+        Check.same("shrunk", x.shrunk(1400), 0);
+        Check.same("shrunkAnew", x.shrunkAnew(1400), 0);
+        x.draw('.', 0, 0, 12, 9);
+        x.draw('g', 1, 0, 1, 1);
+        x.draw('r', 0, 0, 1, 1);
+        x.draw('c', 0, 1, 1, 1);
+        x.draw('k', 0, 2, 1, 1);
+        Check.yes("isFed out of the corner", x.isFed(0, 1, 1400));
+        Check.same("shrunk", x.shrunk(1400), 0);
+        Check.same("shrunkAnew", x.shrunkAnew(1400), 0);
+        x.draw('.', 0, 0, 12, 9);
+        x.draw('g', 2, 0, 1, 1);
+        x.draw('c', 1, 0, 1, 1);
+        x.draw('k', 1, 1, 1, 1);
+        Check.same("a place in the corner", x.bestFeeder(1400), 0);
+    }
+
+    private static void upTo400Steps() {
+        Ironpour x = new Ironpour();
+        x.draw('o', 0, 0, 12, 9);
+        x.draw('c', 1, 1, 10, 7);
+        x.draw('g', 5, 0, 1, 1);
+        Naive naive = new Naive();
+        for (int cell = 0; cell < 108; cell++) {
+            naive.kinds[cell / 12][cell % 12] = x.cell(cell % 12, cell / 12);
+        }
+        naive.fill();
+        int changed = 0;
+        for (int step : new int[] {391, 399, 400}) {
+            int[][] heats = naive.freeze(1500, step);
+            for (int cell = 0; cell < 108; cell++) {
+                int got = x.heatAt(cell % 12, cell / 12, 1500, step);
+                Check.same("heatAt behind " + step, got, heats[cell / 12][cell % 12]);
+                changed += got != x.heatAt(cell % 12, cell / 12, 1500, step - 1) ? 1 : 0;
+            }
+        }
+        Check.yes("some cells become colder still", changed > 0);
     }
 
     /** What is kept of one pattern and heat must not be answered for another one. */

@@ -51,6 +51,10 @@ final class MetalTest {
         furnaceHas(small, "grams are cut in each charge", 420, 100, 50, 0);
         small.charge('p', 5);
         furnaceHas(small, "4 grams of phosphorus come", 420, 100, 50, 40 / 15);
+        Ironpour coke = new Ironpour();
+        coke.charge('k', 1000);
+        coke.charge('f', 1);
+        furnaceHas(coke, "coke is carbon alone", 950000, 750, 0, 0);
         Ironpour full = new Ironpour();
         Check.same("1000", full.charge('s', 1000), 1000);
         Check.same("2000", full.charge('s', 1000), 2000);
@@ -122,6 +126,14 @@ final class MetalTest {
         Check.refused(x, "all is tapped", NONE, () -> x.furnace('c'));
         x.charge('f', 10);
         furnaceHas(x, "nothing stayed behind", 1, 750, 0, 0);
+        Ironpour one = new Ironpour();
+        one.charge('p', 1);
+        furnaceHas(one, "a single kilogram", 420, 100, 50, 0);
+        one.tap(1);
+        one.pig();
+        Check.same("in the pool", one.poolHas('g', 'c'), 420);
+        Check.same("and back again", one.charge('g', 1), 1);
+        furnaceHas(one, "with its elements", 420, 100, 50, 0);
     }
 
     private static void promise25Hold() {
@@ -144,6 +156,13 @@ final class MetalTest {
             x.hold(120);
         }
         furnaceHas(x, "less than a 4000th is cut", x.furnace('c'), (10000 - 1001 * 2 - 200) / 100, 39, 8);
+        Ironpour even = new Ironpour();
+        even.charge('p', 400);
+        even.hold(1);
+        furnaceHas(even, "a 4000th of 4000 grams of silicon is lost", (16800 - 8) / 40, 99, 50, 8);
+        even.charge('p', 400);
+        even.hold(1);
+        furnaceHas(even, "and one of 4000 grams of manganese", 419, 99, 49, 8);
         Ironpour little = new Ironpour();
         little.charge('p', 47);
         Check.same("1974 grams lose nothing", little.hold(120), 1974);

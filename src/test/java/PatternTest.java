@@ -239,6 +239,8 @@ final class PatternTest {
         Check.same("twelve gates", x.speed(), 45);
         x.draw('.', 9, 8, 1, 1);
         Check.same("one row of twelve", x.speed(), 5);
+        x.draw('.', 1, 0, 11, 1);
+        Check.same("one gate in the corner", x.speed(), 60);
     }
 
     private static void comparedWithNaive() {

@@ -42,11 +42,18 @@ final class SandTest {
         sands(x, "what is lost is cut", 87, 38, 50, 49, 0);
         x.mill(20, 20, 20, 50);
         sands(x, "half fresh", 107, 58, 70, 25, 0, 214 - 152 / 5, 200 - 25 - 35);
+        Ironpour even = new Ironpour();
+        even.mill(0, 0, 0, 50);
+        sands(even, "just half", 80, 35, 30, 25, 0);
         Ironpour used = withPattern();
         used.mould();
         sands(used, "used once", 77, 27, 26, 52, 10);
         used.mill(0, 0, 0, 15);
         sands(used, "burnt parts lose too", 77, 27, 26, 45, 9);
+        Ironpour half = withPattern();
+        half.mould();
+        half.mill(0, 0, 0, 50);
+        sands(half, "just half of the burnt parts", 77, 27, 26, 26, 5);
         for (int wrong : new int[] {-1, 21, Integer.MIN_VALUE, Integer.MAX_VALUE}) {
             Check.refused(used, "mill clay", ILLEGAL, () -> used.mill(wrong, 1, 1, 1));
             Check.refused(used, "mill water", ILLEGAL, () -> used.mill(1, wrong, 1, 1));
@@ -113,6 +120,19 @@ final class SandTest {
             burnt.mould();
         }
         sands(burnt, "burnt parts have a most", 50, 0, 0, 70, 300, 0, 0);
+        Ironpour poor = withPattern();
+        for (int i = 1; i <= 27; i++) {
+            poor.mould();
+            if (i % 9 == 0) {
+                poor.charge('s', 40);
+                poor.tap(40);
+                for (int k = 0; k < 9; k++) {
+                    poor.pour();
+                }
+                poor.pig();
+            }
+        }
+        sands(poor, "all clay is gone", 0, 0, 0, 104, 270);
     }
 
     private static void promise20MakeCores() {
