@@ -20,7 +20,9 @@ public final class Ironpour {
     private static final int MOST_HEAT = 1500;
     private static final int TAP_HEAT = 1450;
     private static final int LEAST_POUR_HEAT = 1250;
-    private static final int COLD_HEAT = 20;
+    private static final int OUTSIDE_HEAT = 20;
+    /** A cell that is filled at less than this is a fault. */
+    private static final int COLD_BELOW = 1200;
 
     private static final int MOST_MOULDS = 10;
     private static final int MOST_CASTINGS = 30;
@@ -611,22 +613,19 @@ public final class Ironpour {
         int fewest = shrunkNow;
         int place = -1;
         for (int cell = 0; cell < CELLS && fewest > 0; cell++) {
-            if (pattern.cells[cell] == '.' && isBeside(pattern.cells, cell, 'c')) {
-                int left = shrunkWithFeeder(cell, heat);
-                if (left < fewest) {
-                    fewest = left;
-                    place = cell;
-                }
+            if (pattern.cells[cell] != '.' || !isBeside(pattern.cells, cell, 'c')) {
+                continue;
+            }
+            spareTrial.take(pattern.cells);
+            spareTrial.cells[cell] = 'r';
+            spareTrial.freeze(heat);
+            int left = spareTrial.shrunkCells();
+            if (left < fewest) {
+                fewest = left;
+                place = cell;
             }
         }
         return place;
-    }
-
-    private int shrunkWithFeeder(int cell, int heat) {
-        spareTrial.take(pattern.cells);
-        spareTrial.cells[cell] = 'r';
-        spareTrial.freeze(heat);
-        return spareTrial.shrunkCells();
     }
 
     private Casting castingAt(int casting) {
@@ -1040,7 +1039,7 @@ public final class Ironpour {
         boolean isCold(int heat) {
             for (int cell = 0; cell < CELLS; cell++) {
                 if (takesMetal(cells[cell])
-                        && (!isFilled(cell) || Freezing.heatWhenFilled(heat, filledAt[cell]) < LEAST_HEAT)) {
+                        && (!isFilled(cell) || Freezing.heatWhenFilled(heat, filledAt[cell]) < COLD_BELOW)) {
                     return true;
                 }
             }
@@ -1089,7 +1088,7 @@ public final class Ironpour {
                 meltingHeat[cell] = MELTING_HEAT;
                 if (filledAt[cell] < 0) {
                     frozenAt[cell] = -1;
-                    heat[cell] = COLD_HEAT;
+                    heat[cell] = OUTSIDE_HEAT;
                 } else {
                     frozenAt[cell] = NEVER;
                     liquid++;
@@ -1148,7 +1147,7 @@ public final class Ironpour {
         }
 
         private int flowFromBeyond(int cell) {
-            return (COLD_HEAT - heat[cell]) * 4 / 64;
+            return (OUTSIDE_HEAT - heat[cell]) * 4 / 64;
         }
 
         private void becomeHeat(int cell, int next, int step) {
@@ -1381,7 +1380,7 @@ public final class Ironpour {
         }
 
         void fadeFor(int minutes) {
-            heat = Math.max(COLD_HEAT, heat - 4 * minutes);
+            heat = Math.max(OUTSIDE_HEAT, heat - 4 * minutes);
             for (int minute = 0; minute < minutes; minute++) {
                 magnesium -= (magnesium + 19) / 20;
             }
