@@ -38,9 +38,10 @@ final class Check {
         yes("not: " + what, !got);
     }
 
-    /** The call has to throw this very exception and to leave all that can be asked of the works as it was. */
+    /** The call has to throw this very exception and to leave the works as it was, in all that it holds or tells. */
     static void refused(Ironpour works, String what, Class<? extends RuntimeException> due, Runnable call) {
         String before = Snapshot.of(works);
+        String inside = Inside.of(works);
         made++;
         try {
             call.run();
@@ -50,7 +51,8 @@ final class Check {
                 tell(what + " throws " + thrown + ", due is " + due.getSimpleName());
             }
         }
-        same("the works behind " + what, Snapshot.of(works), before);
+        same("what the works holds behind " + what, Inside.of(works), inside);
+        same("what it tells behind " + what, Snapshot.of(works), before);
     }
 
     static void end(String test) {

@@ -67,34 +67,38 @@ final class FuzzTest {
         ALLOWED.put("meanBar", List.of(ARITHMETIC));
     }
 
+    /** The twin gets the same calls, the spared one only those that the works answered. */
     private static void oneRun(int seed, Map<String, Integer> seen) {
         Ironpour works = new Ironpour();
         Ironpour twin = new Ironpour();
+        Ironpour spared = new Ironpour();
         Random random = new Random(seed);
-        Random twins = new Random(seed);
         if (seed % 2 == 0) {
             Yard.drawSound(works);
             Yard.drawSound(twin);
+            Yard.drawSound(spared);
         }
         String[] names = ALLOWED.keySet().stream().sorted().toArray(String[]::new);
-        String before = Snapshot.of(works);
+        String before = Snapshot.of(works) + Inside.of(works);
         for (int call = 0; call < 512; call++) {
             String name = seed % 4 == 0 ? busy(random, names) : often(random, names);
-            Check.same("the twin's call", seed % 4 == 0 ? busy(twins, names) : often(twins, names), name);
-            String answer = answer(works, name, random);
-            Check.same(name, answer(twin, name, twins), answer);
-            String after = Snapshot.of(works);
+            long numbers = random.nextLong();
+            String answer = answer(works, name, new Random(numbers));
+            Check.same(name + " by the twin", answer(twin, name, new Random(numbers)), answer);
+            String after = Snapshot.of(works) + Inside.of(works);
             if (answer.startsWith("throws ")) {
                 String thrown = answer.substring(7);
                 Check.yes(name + " may throw " + thrown, ALLOWED.get(name).contains(thrown));
                 Check.same("the works behind " + name, after, before);
                 seen.merge(name + " " + thrown, 1, Integer::sum);
             } else {
+                Check.same(name + " by the spared one", answer(spared, name, new Random(numbers)), answer);
                 seen.merge(name + " answers", 1, Integer::sum);
             }
             Check.yes("isSound behind " + name, works.isSound());
             before = after;
         }
+        Check.same("what the spared one holds", Inside.of(spared), Inside.of(works));
     }
 
     /** The calls that bring a works on are wanted more often than the others. */
