@@ -221,6 +221,13 @@ final class CastingTest {
         int casting = x.pour();
         Check.yes("a misrun feeder is cold", hasFault(x, casting, 2));
         Check.no("but nothing is shrunk", hasFault(x, casting, 1));
+        for (int cell : new int[] {0, 11, 96, 107}) {
+            Yard.drawSound(x);
+            x.draw('r', cell % 12, cell / 12, 1, 1);
+            Yard.mouldInFreshSand(x);
+            Yard.tapPig(x, 100);
+            Check.same("a misrun feeder in a corner is cold, and undercut", x.faults(x.pour()), 18);
+        }
         Yard.drawSound(x);
         x.draw('o', 0, 4, 1, 2);
         x.draw('k', 9, 4, 1, 2);

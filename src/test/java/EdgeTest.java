@@ -375,10 +375,7 @@ final class EdgeTest {
         row.draw('c', 1, 0, 10, 1);
         row.draw('r', 0, 0, 1, 2);
         Check.same("ten cells and a gate in a row", row.weight(), 26);
-        Naive naive = new Naive();
-        for (int cell = 0; cell < 108; cell++) {
-            naive.kinds[cell / 12][cell % 12] = x.cell(cell % 12, cell / 12);
-        }
+        Naive naive = Naive.of(x);
         naive.fill();
         naive.freeze(1400, 0);
         naive.feed();

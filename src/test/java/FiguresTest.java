@@ -11,6 +11,7 @@ final class FiguresTest {
         promise49GoodShare();
         promise50MeanBar();
         promise51IsSound();
+        promise51SeesWhatIsWrong();
         Check.end("FiguresTest");
     }
 
@@ -147,5 +148,54 @@ final class FiguresTest {
         x.pig();
         x.charge('g', 11);
         Check.yes("returned", x.isSound());
+    }
+
+    /** No call makes a works unsound, so what it holds is changed: each metal, the furnace's books, and the pattern. */
+    private static void promise51SeesWhatIsWrong() {
+        Ironpour x = Yard.sound();
+        x.charge('p', 333);
+        x.hold(100);
+        x.mould();
+        x.mould();
+        x.tap(100);
+        x.pour();
+        x.pour();
+        x.deliver(0);
+        Object furnace = Inside.at(x, "hearth");
+        Object[] metals = {Inside.at(furnace, "bath"), Inside.at(x, "bucket", "content"), Inside.at(x, "greyPool"),
+            Inside.at(x, "ductilePool"), Inside.at(castingOf(x, 0), "metal"), Inside.at(castingOf(x, 1), "metal")};
+        for (Object metal : metals) {
+            Inside.withAnother(metal, "iron", () -> Check.no("isSound with more iron", x.isSound()));
+            seesAnother(x, (long[]) Inside.at(metal, "grams"));
+        }
+        Inside.withAnother(furnace, "ironFromOutside", () -> Check.no("isSound, iron charged", x.isSound()));
+        for (String book : new String[] {"tenthsFromOutside", "cutTenths", "heldLoss"}) {
+            seesAnother(x, (long[]) Inside.at(furnace, book));
+        }
+        Check.yes("isSound again", x.isSound());
+        int[] filledAt = (int[]) Inside.at(x, "trial", "filledAt");
+        int step = filledAt[65];
+        filledAt[65] = 1;
+        Check.no("isSound, filled from none ahead", x.isSound());
+        filledAt[65] = step;
+        Check.yes("isSound again", x.isSound());
+        int[] frozenAt = (int[]) Inside.at(x, "trial", "freezing", "frozenAt");
+        step = frozenAt[65];
+        frozenAt[65] = 402;
+        Check.no("isSound, fed by what freezes earlier", x.isSound());
+        frozenAt[65] = step;
+        Check.yes("isSound again", x.isSound());
+    }
+
+    private static Object castingOf(Ironpour x, int casting) {
+        return ((java.util.List<?>) Inside.at(x, "allCastings")).get(casting);
+    }
+
+    private static void seesAnother(Ironpour x, long[] numbers) {
+        for (int i = 0; i < numbers.length; i++) {
+            numbers[i]++;
+            Check.no("isSound with another number of element " + i, x.isSound());
+            numbers[i]--;
+        }
     }
 }

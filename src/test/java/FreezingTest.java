@@ -76,10 +76,7 @@ final class FreezingTest {
         Check.same("not below", x.heatAt(0, 4, 1200, 0), 1150);
         Check.same("never below", x.heatAt(11, 8, 1200, 0), 1150);
         Check.same("as hot as it was filled", x.heatAt(11, 8, 1300, 0), 1300 - 2 * 63);
-        Naive naive = new Naive();
-        for (int cell = 0; cell < 108; cell++) {
-            naive.kinds[cell / 12][cell % 12] = x.cell(cell % 12, cell / 12);
-        }
+        Naive naive = Naive.of(x);
         compareFreezing(x, naive, 1200, 3);
     }
 
@@ -293,10 +290,7 @@ final class FreezingTest {
         x.draw('o', 0, 0, 12, 9);
         x.draw('c', 1, 1, 10, 7);
         x.draw('g', 5, 0, 1, 1);
-        Naive naive = new Naive();
-        for (int cell = 0; cell < 108; cell++) {
-            naive.kinds[cell / 12][cell % 12] = x.cell(cell % 12, cell / 12);
-        }
+        Naive naive = Naive.of(x);
         naive.fill();
         int changed = 0;
         for (int step : new int[] {391, 399, 400}) {
@@ -319,10 +313,7 @@ final class FreezingTest {
             int column = random.nextInt(12);
             int row = kind == 'g' ? 0 : random.nextInt(9);
             x.draw(kind, column, row, 1 + random.nextInt(12 - column), 1 + random.nextInt(9 - row));
-            Naive naive = new Naive();
-            for (int cell = 0; cell < 108; cell++) {
-                naive.kinds[cell / 12][cell % 12] = x.cell(cell % 12, cell / 12);
-            }
+            Naive naive = Naive.of(x);
             compareFreezing(x, naive, 1200 + 100 * random.nextInt(4), random.nextInt(20));
         }
     }

@@ -1,11 +1,15 @@
+import java.lang.reflect.InvocationTargetException;
+import java.lang.reflect.Method;
+import java.lang.reflect.Modifier;
+import java.util.Arrays;
 import java.util.HashMap;
 import java.util.List;
 import java.util.Map;
 import java.util.Random;
 
 /**
- * Promises 1 to 51 together, in runs of 512 random calls: only documented exceptions come, a call that throws
- * changes nothing, the same calls give the same answers, and the works stay sound.
+ * Promises 1 to 51 together, in runs of 512 random calls: the answers are those of NaiveWorks, only documented
+ * exceptions come, a call that throws changes nothing, the same calls give the same answers, and the works stay sound.
  */
 final class FuzzTest {
     private static final String ARGUMENT = "IllegalArgumentException";
@@ -67,38 +71,78 @@ final class FuzzTest {
         ALLOWED.put("meanBar", List.of(ARITHMETIC));
     }
 
-    /** The twin gets the same calls, the spared one only those that the works answered. */
+    /**
+     * The twin gets the same calls, the spared one only those that the works answered, and the naive works reckons all
+     * of them a second time.
+     */
     private static void oneRun(int seed, Map<String, Integer> seen) {
         Ironpour works = new Ironpour();
         Ironpour twin = new Ironpour();
         Ironpour spared = new Ironpour();
+        NaiveWorks naive = new NaiveWorks();
         Random random = new Random(seed);
         if (seed % 2 == 0) {
-            Yard.drawSound(works);
-            Yard.drawSound(twin);
-            Yard.drawSound(spared);
+            for (Object[] box : new Object[][] {{'g', 4, 0, 3, 1}, {'r', 4, 1, 3, 4}, {'c', 5, 5, 1, 1}}) {
+                for (Object each : new Object[] {works, twin, spared, naive}) {
+                    answer(each, "draw", box);
+                }
+            }
         }
         String[] names = ALLOWED.keySet().stream().sorted().toArray(String[]::new);
         String before = Snapshot.of(works) + Inside.of(works);
         for (int call = 0; call < 512; call++) {
             String name = seed % 4 == 0 ? busy(random, names) : often(random, names);
-            long numbers = random.nextLong();
-            String answer = answer(works, name, new Random(numbers));
-            Check.same(name + " by the twin", answer(twin, name, new Random(numbers)), answer);
+            Object[] numbers = argumentsOf(name, random, works.castings());
+            String what = "run " + seed + ", call " + call + ", " + name + Arrays.toString(numbers);
+            String answer = answer(works, name, numbers);
+            Check.same(what + " by the twin", answer(twin, name, numbers), answer);
+            Check.same(what + " by the naive one", answer, answer(naive, name, numbers));
             String after = Snapshot.of(works) + Inside.of(works);
             if (answer.startsWith("throws ")) {
                 String thrown = answer.substring(7);
-                Check.yes(name + " may throw " + thrown, ALLOWED.get(name).contains(thrown));
-                Check.same("the works behind " + name, after, before);
+                Check.yes(what + " may throw " + thrown, ALLOWED.get(name).contains(thrown));
+                Check.same("the works behind " + what, after, before);
                 seen.merge(name + " " + thrown, 1, Integer::sum);
             } else {
-                Check.same(name + " by the spared one", answer(spared, name, new Random(numbers)), answer);
+                Check.same(what + " by the spared one", answer(spared, name, numbers), answer);
                 seen.merge(name + " answers", 1, Integer::sum);
             }
-            Check.yes("isSound behind " + name, works.isSound());
+            Check.yes("isSound behind " + what, works.isSound());
             before = after;
         }
         Check.same("what the spared one holds", Inside.of(spared), Inside.of(works));
+        compareAtTheEnd(works, naive);
+    }
+
+    private static void compareAtTheEnd(Ironpour works, NaiveWorks naive) {
+        for (String name : new String[] {"undercut", "cores", "loose", "weight", "speed", "goodCores", "castings",
+            "worst", "delivered", "goodShare", "meanBar"}) {
+            compare(works, naive, name);
+        }
+        String[][] letters = {{"sand", "cwkfbsd"}, {"furnace", "csmp"}, {"ladle", "whm"}, {"pool", "gd"},
+            {"cheapest", "psf"}};
+        for (String[] each : letters) {
+            for (char letter : each[1].toCharArray()) {
+                compare(works, naive, each[0], letter);
+            }
+        }
+        for (char element : "csmp".toCharArray()) {
+            compare(works, naive, "poolHas", 'g', element);
+            compare(works, naive, "poolHas", 'd', element);
+            for (int i = 0; i < 30; i++) {
+                compare(works, naive, "has", i, element);
+            }
+        }
+        for (int i = 0; i < 30; i++) {
+            for (String name : new String[] {"waiting", "alloy", "faults", "shrunkIn", "bar"}) {
+                compare(works, naive, name, i);
+            }
+        }
+    }
+
+    private static void compare(Ironpour works, NaiveWorks naive, String name, Object... numbers) {
+        String what = name + Arrays.toString(numbers) + " at the end";
+        Check.same(what, answer(works, name, numbers), answer(naive, name, numbers));
     }
 
     /** The calls that bring a works on are wanted more often than the others. */
@@ -115,16 +159,23 @@ final class FuzzTest {
         return random.nextInt(10) < 7 ? pouring[random.nextInt(5)] : often(random, names);
     }
 
-    private static String answer(Ironpour x, String name, Random random) {
-        try {
-            return call(x, name, random);
-        } catch (RuntimeException thrown) {
-            return "throws " + thrown.getClass().getSimpleName();
+    private static String answer(Object asked, String name, Object[] numbers) {
+        for (Method method : asked.getClass().getDeclaredMethods()) {
+            if (Modifier.isPublic(method.getModifiers()) && method.getName().equals(name)) {
+                try {
+                    return String.valueOf(method.invoke(asked, numbers));
+                } catch (InvocationTargetException thrown) {
+                    return "throws " + thrown.getCause().getClass().getSimpleName();
+                } catch (IllegalAccessException wrong) {
+                    throw new IllegalStateException(wrong);
+                }
+            }
         }
+        throw new IllegalStateException(name);
     }
 
     /** Mostly in the range, now and then beyond it. */
-    private static int number(Random random, int least, int most) {
+    private static Integer number(Random random, int least, int most) {
         int kind = random.nextInt(40);
         if (kind == 0) {
             return random.nextInt();
@@ -138,78 +189,51 @@ final class FuzzTest {
         return least + random.nextInt(most - least + 1);
     }
 
-    private static char letter(Random random, String letters) {
+    private static Character letter(Random random, String letters) {
         return random.nextInt(25) == 0 ? (char) random.nextInt(300) : letters.charAt(random.nextInt(letters.length()));
     }
 
-    private static String call(Ironpour x, String name, Random random) {
-        int a = number(random, 0, 11);
-        int b = number(random, 0, 8);
-        int heat = number(random, 1200, 1500);
-        int casting = number(random, 0, Math.max(0, x.castings() - 1));
-        char element = letter(random, "csmp");
+    private static Object[] argumentsOf(String name, Random random, int castings) {
+        Integer x = number(random, 0, 11);
+        Integer y = number(random, 0, 8);
+        Integer heat = number(random, 1200, 1500);
+        Integer casting = number(random, 0, Math.max(0, castings - 1));
         switch (name) {
-            case "draw": return "" + x.draw(letter(random, "..crgok"), a, b, 1 + random.nextInt(3),
-                    1 + random.nextInt(3));
-            case "cell": return "" + x.cell(a, b);
-            case "part": return "" + x.part(number(random, 1, 8));
-            case "undercut": return "" + x.undercut();
-            case "cores": return "" + x.cores();
-            case "loose": return "" + x.loose();
-            case "weight": return "" + x.weight();
-            case "filledIn": return "" + x.filledIn(a, b);
-            case "speed": return "" + x.speed();
-            case "frozenIn": return "" + x.frozenIn(a, b, heat);
-            case "heatAt": return "" + x.heatAt(a, b, heat, number(random, 0, 400));
-            case "isFed": return "" + x.isFed(a, b, heat);
-            case "shrunk": return "" + x.shrunk(heat);
-            case "shrunkAnew": return "" + x.shrunkAnew(heat);
-            case "lastPlace": return "" + x.lastPlace(heat);
-            case "bestFeeder": return "" + x.bestFeeder(heat);
-            case "mill": return "" + x.mill(number(random, 0, 20), number(random, 0, 20), number(random, 0, 20),
-                    number(random, 0, 50));
-            case "sand": return "" + x.sand(letter(random, "cwkfbsd"));
-            case "makeCores": return "" + x.makeCores(number(random, 1, 10), number(random, 1, 24));
-            case "goodCores": return "" + x.goodCores();
-            case "hours": return "" + x.hours(number(random, 1, random.nextInt(9) == 0 ? 48 : 3));
-            default: return metalCall(x, name, random, casting, element);
+            case "draw": return new Object[] {letter(random, "..crgok"), x, y, 1 + random.nextInt(3),
+                1 + random.nextInt(3)};
+            case "cell": case "filledIn": return new Object[] {x, y};
+            case "frozenIn": case "isFed": return new Object[] {x, y, heat};
+            case "heatAt": return new Object[] {x, y, heat, number(random, 0, random.nextBoolean() ? 20 : 400)};
+            case "part": return new Object[] {number(random, 1, 8)};
+            case "shrunk": case "shrunkAnew": case "lastPlace": case "bestFeeder": return new Object[] {heat};
+            case "mill": return new Object[] {number(random, 0, 20), number(random, 0, 20), number(random, 0, 20),
+                number(random, 0, 50)};
+            case "sand": return new Object[] {letter(random, "cwkfbsd")};
+            case "makeCores": return new Object[] {number(random, 1, 10), number(random, 1, 24)};
+            case "hours": return new Object[] {number(random, 1, random.nextInt(9) == 0 ? 48 : 3)};
+            case "alloy": case "faults": case "shrunkIn": case "bar": case "weld": case "deliver": case "breakUp":
+                return new Object[] {casting};
+            case "has": return new Object[] {casting, letter(random, "csmp")};
+            default: return argumentsOfMetal(name, random);
         }
     }
 
-    private static String metalCall(Ironpour x, String name, Random random, int casting, char element) {
+    private static Object[] argumentsOfMetal(String name, Random random) {
         switch (name) {
-            case "charge": return "" + x.charge(letter(random, "psfkgd"), number(random, 1, 1000));
-            case "furnace": return "" + x.furnace(element);
-            case "hold": return "" + x.hold(number(random, 1, 120));
-            case "tap": return "" + x.tap(number(random, 1, 500));
-            case "treat": return "" + x.treat(number(random, 1, random.nextBoolean() ? 20 : 100));
-            case "minutes": return "" + x.minutes(number(random, 1, 60));
-            case "ladle": return "" + x.ladle(letter(random, "whm"));
-            case "pig": return "" + x.pig();
-            case "pool": return "" + x.pool(letter(random, "gd"));
-            case "poolHas": return "" + x.poolHas(letter(random, "gd"), element);
-            case "leastCost": return "" + x.leastCost(number(random, 0, 450), number(random, 0, 450),
-                    number(random, 0, 200), number(random, 1, 1000), number(random, 1, 1000),
-                    number(random, 1, 1000));
-            case "cheapest": return "" + x.cheapest(letter(random, "psf"));
-            case "mould": return "" + x.mould();
-            case "waiting": return "" + x.waiting(number(random, 0, 9));
-            case "pour": return "" + x.pour();
-            case "castings": return "" + x.castings();
-            case "alloy": return "" + x.alloy(casting);
-            case "faults": return "" + x.faults(casting);
-            case "shrunkIn": return "" + x.shrunkIn(casting);
-            case "has": return "" + x.has(casting, element);
-            case "bar": return "" + x.bar(casting);
-            case "weld": return "" + x.weld(casting);
-            case "deliver": return "" + x.deliver(casting);
-            case "breakUp": return "" + x.breakUp(casting);
-            case "worst": return "" + x.worst();
-            case "delivered": return "" + x.delivered();
-            case "goodShare": return "" + x.goodShare();
-            case "meanBar": return "" + x.meanBar();
-            case "isSound": return "" + x.isSound();
-            default: throw new AssertionError(name);
+            case "charge": return new Object[] {letter(random, "psfkgd"), number(random, 1, 1000)};
+            case "furnace": return new Object[] {letter(random, "csmp")};
+            case "hold": return new Object[] {number(random, 1, 120)};
+            case "tap": return new Object[] {number(random, 1, 500)};
+            case "treat": return new Object[] {number(random, 1, random.nextBoolean() ? 20 : 100)};
+            case "minutes": return new Object[] {number(random, 1, random.nextBoolean() ? 10 : 60)};
+            case "ladle": return new Object[] {letter(random, "whm")};
+            case "pool": return new Object[] {letter(random, "gd")};
+            case "poolHas": return new Object[] {letter(random, "gd"), letter(random, "csmp")};
+            case "leastCost": return new Object[] {number(random, 0, 450), number(random, 0, 450),
+                number(random, 0, 200), number(random, 1, 1000), number(random, 1, 1000), number(random, 1, 1000)};
+            case "cheapest": return new Object[] {letter(random, "psf")};
+            case "waiting": return new Object[] {number(random, 0, 9)};
+            default: return new Object[0];
         }
     }
 }

@@ -42,4 +42,42 @@ final class Inside {
             text.append(told);
         }
     }
+
+    /** What stands in a field, or in a field of what stands there, and so on. */
+    static Object at(Object holder, String... names) {
+        Object found = holder;
+        try {
+            for (String name : names) {
+                Field field = found.getClass().getDeclaredField(name);
+                field.setAccessible(true);
+                found = field.get(found);
+            }
+        } catch (ReflectiveOperationException wrong) {
+            throw new IllegalStateException(wrong);
+        }
+        return found;
+    }
+
+    /** Adds one to a number that stands in an object, runs the check, and puts the number back. */
+    static void withAnother(Object holder, String name, Runnable check) {
+        try {
+            Field field = holder.getClass().getDeclaredField(name);
+            field.setAccessible(true);
+            boolean isLong = field.getType() == long.class;
+            long number = isLong ? field.getLong(holder) : field.getInt(holder);
+            put(field, holder, number + 1);
+            check.run();
+            put(field, holder, number);
+        } catch (ReflectiveOperationException wrong) {
+            throw new IllegalStateException(wrong);
+        }
+    }
+
+    private static void put(Field field, Object holder, long number) throws IllegalAccessException {
+        if (field.getType() == long.class) {
+            field.setLong(holder, number);
+        } else {
+            field.setInt(holder, (int) number);
+        }
+    }
 }

@@ -169,9 +169,33 @@ final class MetalTest {
         little.charge('p', 1);
         Check.same("2016 grams lose down to 1999", little.hold(120), 1999);
         Check.yes("it is noted", little.isSound());
+        promise25JustBelow4000();
         for (int wrong : new int[] {0, 121, -1, Integer.MIN_VALUE, Integer.MAX_VALUE}) {
             Check.refused(x, "hold " + wrong, ILLEGAL, () -> x.hold(wrong));
         }
+    }
+
+    /** 3999 grams lose nothing, 4000 lose one: 39990 by 1333 is 30, and by 930 it is 43. */
+    private static void promise25JustBelow4000() {
+        Ironpour silicon = new Ironpour();
+        silicon.charge('s', 1000);
+        silicon.charge('s', 333);
+        silicon.hold(120);
+        Check.same("3999 grams of silicon", silicon.furnace('s'), 30);
+        Ironpour manganese = new Ironpour();
+        manganese.charge('s', 3);
+        manganese.charge('p', 795);
+        manganese.charge('f', 132);
+        manganese.hold(120);
+        Check.same("3999 grams of manganese", manganese.furnace('m'), 43);
+        Ironpour phosphorus = new Ironpour();
+        for (int i = 0; i < 3; i++) {
+            phosphorus.charge('p', 1000);
+        }
+        for (int i = 0; i < 20; i++) {
+            phosphorus.hold(120);
+        }
+        Check.same("phosphorus is never lost", phosphorus.furnace('p'), 8);
     }
 
     private static void promise26Tap() {

@@ -57,6 +57,24 @@ final class Naive {
         }
     }
 
+    Naive copy() {
+        Naive copy = new Naive();
+        for (int y = 0; y < 9; y++) {
+            copy.kinds[y] = kinds[y].clone();
+        }
+        copy.parting = parting;
+        return copy;
+    }
+
+    /** The pattern as it stands in a works. */
+    static Naive of(Ironpour works) {
+        Naive naive = new Naive();
+        for (int cell = 0; cell < 108; cell++) {
+            naive.kinds[cell / 12][cell % 12] = works.cell(cell % 12, cell / 12);
+        }
+        return naive;
+    }
+
     int draw(char kind, int x, int y, int wide, int high) {
         int changed = 0;
         for (int row = y; row < y + high; row++) {
@@ -187,7 +205,7 @@ final class Naive {
         return filled.getOrDefault(at(x, y), -1);
     }
 
-    /** Freezes all the 400 steps, whatever is frozen ahead of that, and keeps the heats behind so many. */
+    /** Freezes up to 400 steps, until all is frozen and the step is come to behind which the heats are asked for. */
     int[][] freeze(int heat, int keptStep) {
         frozen.clear();
         melting.clear();
@@ -200,7 +218,7 @@ final class Naive {
             }
         }
         int[][] kept = heats;
-        for (int step = 1; step <= 400; step++) {
+        for (int step = 1; step <= 400 && (step <= keptStep || frozen.size() < filled.size()); step++) {
             int[][] next = new int[9][12];
             for (int i = 0; i < 108; i++) {
                 settle(i, heats[i / 12][i % 12] + gain(i % 12, i / 12), next, step);

@@ -13,6 +13,7 @@ final class SandTest {
         promise20TwentyLots();
         promise21GoodCores();
         promise21EldestFirst();
+        promise21LotsKeepTheirHours();
         promise22Hours();
         Check.end("SandTest");
     }
@@ -54,6 +55,10 @@ final class SandTest {
         half.mould();
         half.mill(0, 0, 0, 50);
         sands(half, "just half of the burnt parts", 77, 27, 26, 26, 5);
+        Ironpour cut = withPattern();
+        cut.mould();
+        cut.mill(0, 0, 0, 48);
+        sands(cut, "24.96 of 52 and 4.8 of 10 are cut", 77, 27, 26, 28, 6);
         for (int wrong : new int[] {-1, 21, Integer.MIN_VALUE, Integer.MAX_VALUE}) {
             Check.refused(used, "mill clay", ILLEGAL, () -> used.mill(wrong, 1, 1, 1));
             Check.refused(used, "mill water", ILLEGAL, () -> used.mill(1, wrong, 1, 1));
@@ -116,6 +121,11 @@ final class SandTest {
         burnt.draw('c', 0, 1, 12, 8);
         burnt.mould();
         sands(burnt, "97 cells", 77, 27, 26, 52, 34, 154 - 38 / 5 - 8, 200 - 52 - 13 - 34);
+        Ironpour milled = withPattern();
+        milled.draw('c', 0, 1, 12, 8);
+        milled.mould();
+        milled.mill(0, 0, 0, 35);
+        sands(milled, "18.2 of 52 and 11.9 of 34 are cut", 77, 27, 26, 34, 23);
         for (int i = 0; i < 9; i++) {
             burnt.mould();
         }
@@ -213,6 +223,28 @@ final class SandTest {
         x.mould();
         Check.same("the first of as old ones was used up, so one of the other is left", x.hours(48) + x.hours(20), 0);
         Check.same("it goes an hour behind its 72", x.hours(1), 1);
+    }
+
+    /** A lot that is used up ahead of others must not change what these are. */
+    private static void promise21LotsKeepTheirHours() {
+        Ironpour x = withPattern();
+        x.makeCores(1, 1);
+        x.hours(48);
+        x.hours(20);
+        x.makeCores(2, 10);
+        x.hours(3);
+        x.makeCores(3, 2);
+        x.draw('o', 5, 5, 2, 1);
+        x.mould();
+        Check.same("none of the others is good yet", x.goodCores(), 0);
+        x.hours(2);
+        Check.same("the third lot", x.goodCores(), 3);
+        x.hours(5);
+        Check.same("the second one as well", x.goodCores(), 5);
+        Check.same("up to 72 hours", x.hours(48) + x.hours(19), 0);
+        Check.same("behind that", x.hours(1), 3);
+        Check.same("the second lot goes 4 hours later", x.hours(4), 0);
+        Check.same("behind that", x.hours(1), 2);
     }
 
     private static void promise22Hours() {
