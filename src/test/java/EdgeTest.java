@@ -16,6 +16,7 @@ final class EdgeTest {
         lowestFirstThenFromTheLeft();
         speedIsCut();
         passesBetweenCells();
+        passesBeyondThePattern();
         cutTowardsNought();
         frozenAtNoughtOfMeltingHeat();
         frozenByLateFilling();
@@ -171,7 +172,7 @@ final class EdgeTest {
                 Ironpour x = new Ironpour();
                 x.draw('g', 0, 0, gates, 1);
                 x.draw('g', 11, rows - 1, 1, 1);
-                int onTop = rows == 1 ? Math.max(gates, gates == 12 ? 12 : gates + 1) : gates;
+                int onTop = rows == 1 && gates < 12 ? gates + 1 : gates;
                 Check.same("speed of " + rows + " by " + onTop, x.speed(), 60 * rows / onTop);
             }
         }
@@ -211,6 +212,34 @@ final class EdgeTest {
         chill.draw('g', 0, 0, 1, 1);
         Check.same("323 each to two chills, 92 each beyond", chill.heatAt(1, 0, 1500, 1), 343);
         Check.same("it is frozen at once", chill.frozenIn(0, 0, 1500), 1);
+    }
+
+    /** Beyond the pattern there is 20, and 4, whatever stands at the edge: a core at 89, a chill at 343, sand at 112. */
+    private static void passesBeyondThePattern() {
+        char[] kinds = {'o', 'k', '.'};
+        int[] first = {89, 343, 112};
+        int[] fromMetal = {49, 176, 64};
+        int[] toEach = {4, 20, 5};
+        for (int i = 0; i < 3; i++) {
+            int[][] scenes = {{5, 0, 4, 0}, {5, 0, 6, 0}, {0, 0, 0, 1}, {11, 0, 11, 1}};
+            for (int[] at : scenes) {
+                Ironpour x = new Ironpour();
+                x.draw(kinds[i], at[2], at[3], 1, 1);
+                x.draw('g', at[0], at[1], 1, 1);
+                Check.same(kinds[i] + " at the edge", x.heatAt(at[2], at[3], 1500, 1), first[i]);
+                Check.same("loses to three sides, one of them beyond", x.heatAt(at[2], at[3], 1500, 2),
+                        first[i] + fromMetal[i] - 3 * toEach[i]);
+            }
+        }
+        Ironpour corner = new Ironpour();
+        corner.draw('g', 1, 0, 1, 1);
+        corner.draw('o', 0, 0, 1, 1);
+        Check.same("a core in the corner", corner.heatAt(0, 0, 1500, 2), 89 + 49 - 3 * 4);
+        Ironpour full = new Ironpour();
+        full.draw('c', 0, 0, 12, 9);
+        full.draw('g', 0, 0, 12, 1);
+        Check.same("all of it takes metal", full.weight(), 216);
+        Check.same("nothing is undercut", full.undercut(), 0);
     }
 
     /** Sand at 112 beside sand at 20 loses 92 times 4 by 64, which is 5 and three quarters. */
@@ -274,6 +303,10 @@ final class EdgeTest {
             Check.same("as filled, or 1150", snake.heatAt(cell % 12, cell / 12, 1200, 0), Math.max(1150, filledAt));
             Check.yes("none is frozen by filling alone", snake.frozenIn(cell % 12, cell / 12, 1200) >= 1);
         }
+        Check.same("the last corner", snake.filledIn(11, 0), 107);
+        Check.same("filled at 990, 140 of melting heat are left, and 70 go on each of two sides",
+                snake.frozenIn(11, 0, 1204), 1);
+        Check.same("filled at 991, a melting heat of 1 is left behind the first step", snake.frozenIn(11, 0, 1205), 2);
     }
 
     private static void frozenWithin400Steps() {
