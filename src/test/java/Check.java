@@ -49,10 +49,18 @@ final class Check {
         } catch (RuntimeException thrown) {
             if (thrown.getClass() != due) {
                 tell(what + " throws " + thrown + ", due is " + due.getSimpleName());
+            } else if (!isThrownByWorks(thrown)) {
+                tell(what + " lets the library throw " + thrown);
             }
         }
         same("what the works holds behind " + what, Inside.of(works), inside);
         same("what it tells behind " + what, Snapshot.of(works), before);
+    }
+
+    /** The class has to throw by itself, ahead of the library or the machine. */
+    static boolean isThrownByWorks(Throwable thrown) {
+        StackTraceElement[] trace = thrown.getStackTrace();
+        return trace.length > 0 && trace[0].getClassName().startsWith("Ironpour");
     }
 
     static void end(String test) {

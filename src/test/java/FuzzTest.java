@@ -165,6 +165,8 @@ final class FuzzTest {
                 try {
                     return String.valueOf(method.invoke(asked, numbers));
                 } catch (InvocationTargetException thrown) {
+                    boolean byItself = asked instanceof NaiveWorks || Check.isThrownByWorks(thrown.getCause());
+                    Check.yes(name + " throws " + thrown.getCause() + " by itself", byItself);
                     return "throws " + thrown.getCause().getClass().getSimpleName();
                 } catch (IllegalAccessException wrong) {
                     throw new IllegalStateException(wrong);
